@@ -37,5 +37,10 @@ public final class Promise08RunTest {
         x.entry(0, -1);
         Check.due("two without words are the same", 8, () -> x.run());
         Check.due("and the first row", 7, () -> x.row(0, 0));
+        Check.top(x, "abcdefghijklmnopqrst");
+        Check.top(x, "abcdefghijklmnopqrst");
+        Check.due("so are two of 20 signs", 9, () -> x.run());
+        Check.top(x, "abcdefghijklmnopqrsT");
+        Check.due("but not when the last one differs", 10, () -> x.run());
     }
 }

@@ -56,6 +56,7 @@ public final class Promise11CompareTest {
 
     private static void equalKeys() {
         ascending(true, true, "a", "\u00e1", "A", "\u00c1");
+        ascending(true, true, "z", "\u00fa", "Z", "\u00da");
         ascending(true, true, "a", "a ", "a-", "a-" + MARK);
         ascending(true, true, "- a", "a");
         ascending(true, true, "a b", "a-b", "a_b");

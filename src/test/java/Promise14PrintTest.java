@@ -2,7 +2,9 @@ public final class Promise14PrintTest {
     public static void main(String[] args) {
         faults();
         parts();
+        fullStyle();
         pages();
+        eachPage();
         wordsToSee();
         groups();
         tooLong();
@@ -52,6 +54,38 @@ public final class Promise14PrintTest {
         String all = "i-iii, mmmdccclxxxviii, 7-8, 10, 100, 1000, 30405, 99999, y-aa, az, ba, zz";
         Check.same("pages", all, Check.printed(x, "|%p||"));
         Check.same("twice", all + all, Check.printed(x, "|%p%p||"));
+    }
+
+    private static void eachPage() {
+        int[] numbers = {1, 4, 5, 6, 9, 10, 40, 49, 50, 90, 99, 100, 400, 500, 900, 1000, 1444, 3999};
+        String[] romans = {"i", "iv", "v", "vi", "ix", "x", "xl", "xlix", "l", "xc", "xcix", "c", "cd", "d", "cm", "m",
+            "mcdxliv", "mmmcmxcix"};
+        for (int k = 0; k < numbers.length; k++) {
+            onePage(0, numbers[k], romans[k]);
+        }
+        for (int n : new int[] {1, 9, 10, 99, 100, 101, 999, 1000, 9999, 10000, 10001, 20000, 99999}) {
+            onePage(1, n, Integer.toString(n));
+        }
+        int[] letters = {1, 2, 25, 26, 27, 28, 52, 53, 78, 79, 676, 677, 701, 702};
+        String[] texts = {"a", "b", "y", "z", "aa", "ab", "az", "ba", "bz", "ca", "yz", "za", "zy", "zz"};
+        for (int k = 0; k < letters.length; k++) {
+            onePage(2, letters[k], texts[k]);
+        }
+    }
+
+    private static void onePage(int kind, int n, String want) {
+        IndexSort x = new IndexSort();
+        x.entry(0, -1);
+        x.page(0, kind, n);
+        Check.same("page " + n + " of kind " + kind, want, Check.printed(x, "|%p||"));
+    }
+
+    private static void fullStyle() {
+        IndexSort x = new IndexSort();
+        Check.entry(x, 2, Check.entry(x, 1, Check.top(x, "a"), "b"), "c");
+        Check.same("80 signs", "x".repeat(75) + "c", Check.printed(x, "|||" + "x".repeat(75) + "%w"));
+        Check.same("80 signs, the last one a fault", "fault -80", Check.printed(x, "|||" + "x".repeat(76) + "%"));
+        Check.same("80 signs, a bar too few", "fault -81", Check.printed(x, "||" + "x".repeat(78)));
     }
 
     private static void wordsToSee() {
