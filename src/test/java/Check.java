@@ -10,24 +10,20 @@ final class Check {
     }
 
     static void due(String call, long want, Call asked) {
-        String got;
-        try {
-            got = Integer.toString(asked.go());
-        } catch (RuntimeException e) {
-            got = "throws." + e.getClass().getSimpleName();
-        }
-        same(call, Long.toString(want), got);
+        same(call, Long.toString(want), answer(asked));
     }
 
     /** The very class that the document names, not one under it. */
     static void dueThrow(String call, Class<? extends RuntimeException> want, Call asked) {
-        String got;
+        same(call, "throws." + want.getSimpleName(), answer(asked));
+    }
+
+    private static String answer(Call asked) {
         try {
-            got = Integer.toString(asked.go());
+            return Integer.toString(asked.go());
         } catch (RuntimeException e) {
-            got = "throws." + e.getClass().getSimpleName();
+            return "throws." + e.getClass().getSimpleName();
         }
-        same(call, "throws." + want.getSimpleName(), got);
     }
 
     static void same(String call, String want, String got) {
