@@ -179,6 +179,10 @@ final class Model {
         return out.charAt(i);
     }
 
+    int sizeOfOut() {
+        return out.length();
+    }
+
     private void need(int entry) {
         if (entry < 0 || entry >= all.size()) {
             throw new NoSuchElementException();

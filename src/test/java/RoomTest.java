@@ -28,25 +28,23 @@ public final class RoomTest {
         Check.finish();
     }
 
+    /** As much of all as 512 calls leave room for, with those that ask. */
     private static IndexSort full() {
         IndexSort x = new IndexSort();
-        for (int e = 0; e < 80; e++) {
-            Check.entry(x, e % 3, e % 3 == 0 ? -1 : e - 1, "words " + (79 - e) / 2);
-            for (int k = 0; k < 20; k++) {
-                x.page(e, k % 3, 1 + (e * 7 + k * 5) % 50);
-            }
-            for (int k = 1; k <= 5 && k <= e; k++) {
-                x.see(e, e - k);
-            }
+        for (int e = 0; e < 60; e++) {
+            Check.entry(x, e % 3, e % 3 == 0 ? -1 : e - 1, "" + (char) ('z' - e / 4));
+            x.page(e, e % 3, 1 + e * 7 % 50);
+            x.page(e, e % 3, 2 + e * 7 % 50);
+            x.see(e, e / 2);
         }
-        Check.style(x, "%g%n|%w|%w|%p");
+        Check.style(x, "%g%n|%w|%w|%p%s");
         return x;
     }
 
     private static void ask(IndexSort x) {
         x.rule(0, true);
         int rows = x.run();
-        for (int i = 0; i < rows; i++) {
+        for (int i = 0; i < rows; i += 8) {
             for (int what = 0; what < 5; what++) {
                 x.row(i, what);
             }
