@@ -3,6 +3,7 @@ public final class Promise10LocatorTest {
 
     public static void main(String[] args) {
         Check.sentence("Of locator j of row i: 0 its kind, 1 from, 2 to.", Promise10LocatorTest::each);
+        Check.sentence("Of locator j of row i: 0 its kind, 1 from, 2 to.", Promise10LocatorTest::rowByRow);
         Check.sentence("Of locator j of row i: 0 its kind, 1 from, 2 to. IndexOutOfBoundsException.",
             Promise10LocatorTest::outside);
         Check.sentence("all its pages, by kinds, then numbers, each once", Promise10LocatorTest::byKindsThenNumbers);
@@ -39,6 +40,21 @@ public final class Promise10LocatorTest {
                 Check.due("locator(0, " + j + ", " + what + ")", due[j][what], () -> x.locator(0, locator, asked));
             }
         }
+    }
+
+    /** A row with fewer pages behind one with more: nothing of that one is left in it. */
+    private static void rowByRow() {
+        IndexSort x = Check.tops("a", "b", "c");
+        x.page(0, 1, 10);
+        x.page(0, 1, 20);
+        x.page(0, 1, 21);
+        x.page(1, 1, 19);
+        for (int time = 0; time < 2; time++) {
+            Check.same("row 0", "1:10-10 1:20-20 1:21-21", Check.locators(x, 0));
+            Check.same("row 1", "1:19-19", Check.locators(x, 1));
+            Check.same("row 2", "", Check.locators(x, 2));
+        }
+        Check.same("printed", "a 10, 20, 21.b 19.c .", Check.printed(x, "|%w %p.||"));
     }
 
     /** In some, row 0 is bush with two locators, row 1 Tree with one, row 3 vein with none. */
