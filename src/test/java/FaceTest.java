@@ -35,7 +35,9 @@ public final class FaceTest {
     public static void main(String[] args) throws IOException {
         members();
         nestedClasses();
-        text(Files.readString(Path.of("src/main/java/IndexSort.java"), StandardCharsets.ISO_8859_1));
+        String source = Files.readString(Path.of("src/main/java/IndexSort.java"), StandardCharsets.ISO_8859_1);
+        asTheDocumentWrites(source, Files.readString(Path.of("../shared/DOC.md"), StandardCharsets.UTF_8));
+        text(source);
         Check.finish();
     }
 
@@ -88,6 +90,19 @@ public final class FaceTest {
                 Check.same(m.getName() + " takes seven at most", "true", Boolean.toString(m.getParameterCount() <= 7));
             }
         }
+    }
+
+    /** The names of the parameters too, which reflection does not tell. */
+    private static void asTheDocumentWrites(String source, String document) {
+        String code = source.replaceAll("\\s+", " ");
+        Matcher face = Pattern.compile("(?m)^ *(public [^;{]*)[;{]$").matcher(document);
+        int found = 0;
+        while (face.find()) {
+            found++;
+            String line = face.group(1).strip();
+            Check.same("the class has " + line, "true", Boolean.toString(code.contains(line + " {")));
+        }
+        Check.same("lines of the face", Integer.toString(FACE.length + 2), Integer.toString(found));
     }
 
     private static void text(String source) {
